@@ -259,6 +259,22 @@ public final class LaddersTest {
         Due.is("count(6) at last", x.count(6), 10);
     }
 
+    private static void allDoubted() {
+        ReignLadders x = new ReignLadders();
+        x.reign(0, 0, 20, 0, 0);
+        x.sky(0, 99, -2000, -1990, -1980, 0);
+        Due.is("a sky ahead of all years", x.doubt(0, 0, 0), 1);
+        Due.is("has no rival", x.doubt(0, 0, 1), 0);
+        x.reign(0, 0, 20, 0, 0);
+        x.letter(0, 1, 1, 1, 0);
+        x.letter(1, 1, 0, 20, 0);
+        Due.is("with a letter too early", x.doubt(0, 0, 0), 5);
+        x.undo();
+        x.undo();
+        x.letter(1, 1, 0, 20, 0);
+        Due.is("all there are", x.doubt(0, 0, 0), 3);
+    }
+
     private static void manyDoubted() {
         ReignLadders x = new ReignLadders();
         x.reign(0, 0, 20, 0, 0);
@@ -365,6 +381,7 @@ public final class LaddersTest {
         refusalsOfAll();
         whatHolds();
         whatIsDoubted();
+        allDoubted();
         manyDoubted();
         whatFloats();
         whatFloatsAlone();

@@ -71,6 +71,28 @@ public final class SchoolsTest {
         }
     }
 
+    private static void textsAsLongAsThePage() {
+        ReignLadders x = threeReigns();
+        String exclamations = "!!!!!!!!!!!!!!!!!!!!!!!!!!!!!!!!!!!!!!!!!!!!!!!!!!!!!!";
+        Due.is("a text of 60", Due.text(x, 0, "C:0?" + exclamations.substring(0, 52) + "r=00"), 1);
+        Due.is("a text behind it", Due.text(x, 0, "C:1?r=0"), 2);
+        Due.is("counts(0, 0)", x.counts(0, 0), 1);
+        Due.is("counts(0, 1)", x.counts(0, 1), 0);
+        Due.is("another of 60", Due.text(x, 0, "C:0?" + exclamations.substring(0, 51) + "(r=1)"), 3);
+        Due.is("counts(0, 0) but for 1", x.counts(0, 0), 0);
+        Due.is("counts(0, 1) but for 1", x.counts(0, 1), 0);
+        x.strike(0);
+        x.strike(0);
+        Due.is("another in place of both", Due.text(x, 0, "C:1?!r=0"), 2);
+        Due.is("counts(0, 0)", x.counts(0, 0), 0);
+        Due.is("counts(0, 1)", x.counts(0, 1), 1);
+        ReignLadders y = threeReigns();
+        Due.text(y, 0, "B:0?(((((((((((((((((((((((((((n=5)))))))))))))))))))))))))))");
+        Due.text(y, 0, "B:0?((((((((((((((((((((((((((n=05))))))))))))))))))))))))))");
+        Due.is("count(2)", y.count(2), 1);
+        Due.is("the page of 61", y.count(4), 0);
+    }
+
     /** What a struck text leaves behind is not read. */
     private static void textsInEachOthersPlace() {
         ReignLadders x = threeReigns();
@@ -232,6 +254,7 @@ public final class SchoolsTest {
         thePage();
         faults();
         wholeAndHalfTexts();
+        textsAsLongAsThePage();
         textsInEachOthersPlace();
         textsOfASchool();
         conditions();
