@@ -1,8 +1,8 @@
 /** Answers beside those that are due; every one that is not is printed, and the test ends with exit code 1. */
-final class Due {
+public final class Due {
     private static int wrong = 0;
 
-    static void is(String call, long got, long want) {
+    public static void is(String call, long got, long want) {
         if (got != want) {
             wrong++;
             System.out.println(call + " answered " + got + ", due is " + want);
